@@ -1,3 +1,5 @@
+import java.util.List;
+
 /** Counts and prints the answers that are not due. */
 final class Expect {
     interface Call {
@@ -17,6 +19,22 @@ final class Expect {
         if (got != want) {
             complain(what + " answered " + got + ", due is " + want);
         }
+    }
+
+    void same(String what, List<String> want, List<String> got) {
+        checks++;
+        if (got.equals(want)) {
+            return;
+        }
+        int line = 0;
+        while (line < want.size() && line < got.size() && want.get(line).equals(got.get(line))) {
+            line++;
+        }
+        complain(what + ": " + lineOf(got, line) + ", due is " + lineOf(want, line));
+    }
+
+    private static String lineOf(List<String> lines, int line) {
+        return line < lines.size() ? lines.get(line) : "the end";
     }
 
     /** The class must be the very one: ArrayIndexOutOfBoundsException would be the machine's. */

@@ -6,8 +6,9 @@ import java.util.List;
  * running state: it reckons every answer anew from the list of what has happened.
  */
 public final class ModelTest {
-    private static final int RUNS = 600;
-    private static final int CALLS = 512;
+    private static final int RUNS = 1200;
+    private static final int MOST_CALLS = 512;
+    private static final int MOST_CALLS_OF_A_STEP = 12;
     private static final int[] EDGES = {
         -1, 0, 1, 2, 3, 5, 6, 7, 23, 24, 46, 47, 48, 50, 99, 100, 101, 4999, 5000, 5001,
         9999999, 10000000, 10000001, -10000000, -10000001, Integer.MIN_VALUE, Integer.MAX_VALUE
@@ -49,6 +50,7 @@ public final class ModelTest {
         private final Model model = new Model();
         private final int run;
         private final int closings;
+        private int calls = 0;
 
         Pair(int run) {
             this.run = run;
@@ -56,8 +58,8 @@ public final class ModelTest {
         }
 
         void play() {
-            for (int call = 0; call < CALLS; call++) {
-                String text = "run " + run + ", call " + call + ": ";
+            while (calls <= MOST_CALLS - MOST_CALLS_OF_A_STEP) {
+                String text = "run " + run + ", after call " + calls + ": ";
                 if (draw(closings) == 0) {
                     compare(text + "closeMonth", model.closeMonth(), book::closeMonth);
                     compareMonth(text);
@@ -90,7 +92,7 @@ public final class ModelTest {
                     lend(text, branch, rate, term);
                     break;
                 case 3:
-                    int loan = drawIn(0, Math.max(0, book.loans()));
+                    int loan = drawIn(0, model.loans.size());
                     compare(text + "repay " + loan, model.repay(loan), () -> book.repay(loan));
                     break;
                 default:
@@ -109,9 +111,9 @@ public final class ModelTest {
         }
 
         private void ask(String text) {
-            int loan = drawIn(0, Math.max(0, book.loans()));
+            int loan = drawIn(0, model.loans.size());
             int small = drawIn(0, 5);
-            int month = drawIn(0, Math.max(0, book.month()));
+            int month = drawIn(0, model.month);
             switch (draw(6)) {
                 case 0:
                     compare(text + "left " + loan, model.left(loan), () -> book.left(loan));
@@ -147,21 +149,27 @@ public final class ModelTest {
 
         /** The first sentence of the terms: all margins are the interest, to the cent. */
         private void compareMonth(String text) {
-            int ended = book.month() - 1;
-            long margins = book.treasury(ended);
-            for (int branch = 0; branch < 3; branch++) {
-                int margin = book.margin(branch, ended);
-                margins += margin;
-                expect.due(text + "margin " + branch, model.margin(branch, ended), margin);
-                expect.due(text + "byProduct " + branch, model.byProduct(branch, ended),
-                        book.byProduct(branch, ended));
+            int ended = model.month - 1;
+            if (ended < 0) {
+                return;
             }
-            expect.due(text + "treasury", model.treasury(ended), book.treasury(ended));
-            expect.due(text + "interest", model.interest(ended), book.interest(ended));
-            expect.due(text + "all margins", book.interest(ended), margins);
+            long margins = 0;
+            for (int branch = 0; branch < 3; branch++) {
+                int asked = branch;
+                margins += model.margin(branch, ended);
+                compare(text + "margin " + branch, model.margin(branch, ended),
+                        () -> book.margin(asked, ended));
+                compare(text + "byProduct " + branch, model.byProduct(branch, ended),
+                        () -> book.byProduct(asked, ended));
+            }
+            margins += model.treasury(ended);
+            compare(text + "treasury", model.treasury(ended), () -> book.treasury(ended));
+            compare(text + "interest", model.interest(ended), () -> book.interest(ended));
+            expect.due(text + "all margins", model.interest(ended), margins);
         }
 
         private void compare(String text, long due, Expect.Call call) {
+            calls++;
             if (due == Model.NO_INDEX) {
                 expect.noIndex(text, call);
             } else if (due == Model.BAD_ARGUMENT) {
