@@ -5,7 +5,7 @@ import java.lang.reflect.Modifier;
 import java.util.Arrays;
 import java.util.TreeSet;
 
-/** The face of the class is the document's, and nothing besides. */
+/** The face of the class is the document's, and nothing besides (LANGUAGE.md, rules 1 and 5). */
 public final class FaceTest {
     private static final String INDEX = " IndexOutOfBoundsException";
     private static final String ARGUMENT = " IllegalArgumentException";
@@ -40,6 +40,9 @@ public final class FaceTest {
         constructorIsTheOnlyOne();
         methodsAreTheFace();
         allElseIsPrivate();
+        noPrivateMethodBearsAPublicName();
+        classesInsideAreHiddenAndStatic();
+        staticFieldsAreFinal();
         expect.end();
     }
 
@@ -69,6 +72,53 @@ public final class FaceTest {
         for (Field field : FundBook.class.getDeclaredFields()) {
             int access = Modifier.isPrivate(field.getModifiers()) ? 1 : 0;
             expect.due(field.getName() + " is private", 1, access);
+        }
+    }
+
+    private static void noPrivateMethodBearsAPublicName() {
+        TreeSet<String> names = new TreeSet<>();
+        for (Method method : FundBook.class.getMethods()) {
+            if (method.getDeclaringClass() == FundBook.class) {
+                names.add(method.getName());
+            }
+        }
+        expect.due("names of the face", FACE.length, names.size());
+        noneBears(names, FundBook.class.getDeclaredMethods());
+        for (Class<?> inside : FundBook.class.getDeclaredClasses()) {
+            noneBears(names, inside.getDeclaredMethods());
+        }
+    }
+
+    private static void noneBears(TreeSet<String> names, Method[] methods) {
+        for (Method method : methods) {
+            if (!Modifier.isPublic(method.getModifiers())) {
+                expect.due(method.getName() + " is a public name", 0,
+                        names.contains(method.getName()) ? 1 : 0);
+            }
+        }
+    }
+
+    private static void classesInsideAreHiddenAndStatic() {
+        int open = Modifier.PUBLIC | Modifier.PROTECTED;
+        for (Class<?> inside : FundBook.class.getDeclaredClasses()) {
+            int kind = inside.getModifiers();
+            expect.due(inside.getName() + " is open", 0, kind & open);
+            expect.due(inside.getName() + " is static", 1, Modifier.isStatic(kind) ? 1 : 0);
+        }
+    }
+
+    private static void staticFieldsAreFinal() {
+        for (Field field : FundBook.class.getDeclaredFields()) {
+            int kind = field.getModifiers();
+            expect.due(field.getName() + " is fixed", 1,
+                    Modifier.isStatic(kind) && !Modifier.isFinal(kind) ? 0 : 1);
+        }
+        for (Class<?> inside : FundBook.class.getDeclaredClasses()) {
+            for (Field field : inside.getDeclaredFields()) {
+                int kind = field.getModifiers();
+                expect.due(field.getName() + " is fixed", 1,
+                        Modifier.isStatic(kind) && !Modifier.isFinal(kind) ? 0 : 1);
+            }
         }
     }
 
